@@ -51,6 +51,8 @@ public final class PolarPlanimeter {
     private static final long FIRST_HASH = 2113;
     private static final long HASH_FACTOR = 31;
     private static final int FRACTION_BITS = 52;
+    private static final long SIGN_BIT = 1L << 63;
+    private static final long ABOVE_ALL_SQUARES = 1L << 62;
     private static final int EXPONENT_BIAS = 1023;
 
     private final State now = new State();
@@ -64,8 +66,6 @@ public final class PolarPlanimeter {
     private int latestReason;
 
     public PolarPlanimeter() {
-        bufferLength = 0;
-        latestReason = NOT_REFUSED;
     }
 
     // ---- the instrument
@@ -489,7 +489,7 @@ public final class PolarPlanimeter {
         boolean negative = (meanMinusArea() < 0) != (area < 0);
         double error = error();
         long bits = bitsOfSize(error < 0 ? -error : error);
-        return negative ? bits | Long.MIN_VALUE : bits;
+        return negative ? bits | SIGN_BIT : bits;
     }
 
     /** Double.doubleToLongBits is outside the allowed library; halving and doubling lose nothing here. */
@@ -875,7 +875,7 @@ public final class PolarPlanimeter {
 
         private void beginMeasuring(State state) {
             arm.fit(state);
-            leastSquare = Long.MAX_VALUE;
+            leastSquare = ABOVE_ALL_SQUARES;
             greatestSquare = 0;
         }
 

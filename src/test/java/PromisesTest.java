@@ -2,6 +2,9 @@
 public final class PromisesTest {
     private static final int MIN = Integer.MIN_VALUE;
     private static final int MAX = Integer.MAX_VALUE;
+    private static final int POLE = 0;
+    private static final int TRACER = 1;
+    private static final int PLAY = 4;
 
     private PromisesTest() {
     }
@@ -43,6 +46,7 @@ public final class PromisesTest {
         leastArm();
         error();
         digest();
+        digestOfErrors();
         Check.end();
     }
 
@@ -771,6 +775,16 @@ public final class PromisesTest {
         PolarPlanimeter twice = loaded("9,-9;9,9;-9,9;-9,-9;8,-8;8,8;-8,8;-8,-8");
         dueCount(twice, 7, 2);
         dueCount(twice, 8, 2 * 4523893);
+        PolarPlanimeter small = loaded("1,0;0,1;-1,-1");
+        dueCount(small, 7, 1);
+        PolarPlanimeter turned = loaded("-1,-1;0,1;1,0");
+        dueCount(turned, 7, -1);
+        PolarPlanimeter levelClockwise = loaded("0,-9;-9,0;0,9;9,0");
+        dueCount(levelClockwise, 7, -1);
+        turned.setAnchor(9, 0);
+        dueCount(turned, 7, 0);
+        turned.setAnchor(-9, 0);
+        dueCount(turned, 7, 0);
         PolarPlanimeter level = loaded("9,0;0,9;-9,0;0,-9");
         dueCount(level, 7, 1);
     }
@@ -937,5 +951,64 @@ public final class PromisesTest {
             700, 600, 0, 8, -157298687, 1, 300, 600, 0, 6, 52525754, 1,
             0, 0, 61362097, 119, 119847, 0, r.leastArm(), bits, 0, 0};
         Check.due("digest with a run", hashOf(run), r.digest());
+    }
+
+    /** The digest, from what the other methods answer; the buffer is empty. */
+    private static void dueDigest(String what, PolarPlanimeter p) {
+        long hash = 2113;
+        for (int i = 0; i < 15; i++) {
+            hash = 31 * hash + p.count(i);
+        }
+        for (int i = 0; i < 5; i++) {
+            hash = 31 * hash + p.setting(i);
+        }
+        for (int i = 0; i < 6 * p.count(0); i++) {
+            hash = 31 * hash + p.corner(i / 6, i % 6);
+        }
+        for (int i = 0; i < 6 * p.count(1); i++) {
+            hash = 31 * hash + p.made(i / 6, i % 6);
+        }
+        hash = 31 * hash + p.leastArm();
+        hash = 31 * hash + Double.doubleToLongBits(p.error());
+        hash = 31 * hash + p.reason();
+        Check.due("digest, " + what, 31 * hash, p.digest());
+    }
+
+    /** If all is lost by slips, the area of a run is the constant alone: so errors can be chosen. */
+    private static void dueErrorOfConstant(String outline, int pole, int tracer, double want) {
+        PolarPlanimeter p = loaded(outline);
+        p.set(POLE, pole);
+        p.set(TRACER, tracer);
+        for (int k = 0; k < p.count(0); k++) {
+            p.setSlip(k, 100);
+        }
+        p.run(0, false);
+        Check.dueBits("error of " + outline, want, p.error());
+        dueDigest("error of " + outline, p);
+    }
+
+    private static void digestOfErrors() {
+        dueErrorOfConstant("-64,-281;64,-281;64,281;-64,281", 214, 214, 1.0);
+        dueErrorOfConstant("-51,-239;51,-239;51,240;-51,240", 216, 216, 2.0);
+        dueErrorOfConstant("-53,-137;53,-137;53,137;-53,137", 215, 215, 4.0);
+        dueErrorOfConstant("-51,-479;51,-479;51,479;-51,479", 216, 266, 0.5);
+        dueErrorOfConstant("-153,-239;153,-239;153,240;-153,240", 216, 216, 0.0);
+        dueErrorOfConstant("-153,240;153,240;153,-239;-153,-239", 216, 216, -0.0);
+        dueErrorOfConstant("300,300;700,300;700,600;300,600", 1200, 1000, -1.0);
+        dueErrorOfConstant("300,300;302,300;301,301", 1200, 1000, -1.0);
+        dueErrorOfConstant("300,300;301,301;302,300", 1200, 1000, -1.0);
+        PolarPlanimeter flat = loaded("300,300;700,300;500,300");
+        flat.set(PLAY, 10000);
+        flat.run(1, false);
+        Check.due("the mean of a flat outline is below 0", 1, flat.count(10) < 0 ? 1 : 0);
+        dueDigest("a flat outline", flat);
+        PolarPlanimeter small = loaded("300,300;302,300;301,301");
+        small.run(0, false);
+        small.run(2, true);
+        dueDigest("a small outline", small);
+        small.run(1, true);
+        small.setTolerance(0);
+        small.runAll();
+        dueDigest("a small outline with all runs", small);
     }
 }
