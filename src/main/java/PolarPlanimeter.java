@@ -401,15 +401,10 @@ public final class PolarPlanimeter {
             case 3:
                 return outline.steps(k, now.settings[STEP]);
             case 4:
-                return isSegmentInReach(k) ? follower.roll(now, k) : 0;
+                return follower.reachesSegment(now, k) ? follower.roll(now, k) : 0;
             default:
-                return isSegmentInReach(k) ? 1 : 0;
+                return follower.reachesSegment(now, k) ? 1 : 0;
         }
-    }
-
-    private boolean isSegmentInReach(int k) {
-        follower.measureOne(now, k);
-        return follower.reachesMeasured();
     }
 
     private long runProperty(int run, int what) {
@@ -448,7 +443,7 @@ public final class PolarPlanimeter {
             case 6:
                 return now.outline.area();
             case 7:
-                return now.winding();
+                return now.outline.windingAround(now.anchorX, now.anchorY);
             case 8:
                 return now.constant();
             case 9:
@@ -486,9 +481,9 @@ public final class PolarPlanimeter {
         if (now.runs.made == 0 || area == 0) {
             return 0;
         }
-        boolean negative = (meanMinusArea() < 0) != (area < 0);
-        double error = error();
-        long bits = bitsOfSize(error < 0 ? -error : error);
+        long difference = meanMinusArea();
+        boolean negative = (difference < 0) != (area < 0);
+        long bits = bitsOfSize((double) Math.abs(difference) / (double) Math.abs(area));
         return negative ? bits | SIGN_BIT : bits;
     }
 
@@ -533,6 +528,7 @@ public final class PolarPlanimeter {
         return guess;
     }
 
+    /** Above 0 if c is on the left of the way from a to b, below 0 if it is on the right. */
     private static long cross(long ax, long ay, long bx, long by, long cx, long cy) {
         return (bx - ax) * (cy - ay) - (by - ay) * (cx - ax);
     }
@@ -563,13 +559,9 @@ public final class PolarPlanimeter {
             runs.copy(other.runs);
         }
 
-        private long winding() {
-            return outline.windingAround(anchorX, anchorY);
-        }
-
         private long constant() {
             long pole = settings[POLE];
-            return winding() * (355 * pole * pole / 113);
+            return outline.windingAround(anchorX, anchorY) * (355 * pole * pole / 113);
         }
     }
 
@@ -654,7 +646,7 @@ public final class PolarPlanimeter {
 
         private int crossing(int k, int x, int y) {
             int next = next(k);
-            long side = sideOf(k, x, y);
+            long side = cross(xs[k], ys[k], xs[next], ys[next], x, y);
             if (ys[k] <= y && ys[next] > y && side > 0) {
                 return 1;
             }
@@ -664,16 +656,11 @@ public final class PolarPlanimeter {
             return 0;
         }
 
-        /** Above 0 if the point is on the left of the segment, below 0 if it is on the right. */
-        private long sideOf(int k, int x, int y) {
-            int next = next(k);
-            return cross(xs[k], ys[k], xs[next], ys[next], x, y);
-        }
-
         private boolean touches(int x, int y) {
             for (int k = 0; k < corners; k++) {
                 int next = next(k);
-                if (sideOf(k, x, y) == 0 && isBetween(x, xs[k], xs[next]) && isBetween(y, ys[k], ys[next])) {
+                boolean inLine = cross(xs[k], ys[k], xs[next], ys[next], x, y) == 0;
+                if (inLine && isBetween(x, xs[k], xs[next]) && isBetween(y, ys[k], ys[next])) {
                     return true;
                 }
             }
@@ -868,9 +855,10 @@ public final class PolarPlanimeter {
             }
         }
 
-        private void measureOne(State state, int k) {
+        private boolean reachesSegment(State state, int k) {
             beginMeasuring(state);
             measure(state, k);
+            return reachesMeasured();
         }
 
         private void beginMeasuring(State state) {

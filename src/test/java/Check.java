@@ -1,6 +1,7 @@
 /** Counts and prints the answers that are not the ones that are due. */
 final class Check {
     private static int wrong = 0;
+    private static String sentence = "";
 
     private Check() {
     }
@@ -15,6 +16,12 @@ final class Check {
         }
     }
 
+    static void same(String call, String want, String got) {
+        if (!want.equals(got)) {
+            report(call + " answered " + got + ", due is " + want);
+        }
+    }
+
     /** Tells 0.0 from -0.0, too. */
     static void dueBits(String call, double want, double got) {
         if (Double.doubleToLongBits(want) != Double.doubleToLongBits(got)) {
@@ -23,19 +30,19 @@ final class Check {
     }
 
     static void index(String call, Call made) {
-        dueThrow(call, IndexOutOfBoundsException.class, made);
+        thrown(call, IndexOutOfBoundsException.class, made);
     }
 
     static void argument(String call, Call made) {
-        dueThrow(call, IllegalArgumentException.class, made);
+        thrown(call, IllegalArgumentException.class, made);
     }
 
     static void state(String call, Call made) {
-        dueThrow(call, IllegalStateException.class, made);
+        thrown(call, IllegalStateException.class, made);
     }
 
     /** The very class is due: one that the machine throws would be a class below it. */
-    private static void dueThrow(String call, Class<? extends RuntimeException> want, Call made) {
+    static void thrown(String call, Class<?> want, Call made) {
         try {
             made.make();
         } catch (RuntimeException e) {
@@ -47,9 +54,14 @@ final class Check {
         report(call + " threw nothing, due is " + want.getName());
     }
 
+    /** The sentence of the document that the next answers are due by: it is told with what is wrong. */
+    static void sentence(String text) {
+        sentence = "[" + text + "] ";
+    }
+
     static void report(String text) {
         wrong++;
-        System.out.println(text);
+        System.out.println(sentence + text);
     }
 
     static void end() {

@@ -46,7 +46,7 @@ public final class FaceTest {
 
     public static void main(String[] args) {
         Class<?> face = PolarPlanimeter.class;
-        same("the class's modifiers", "public final", Modifier.toString(face.getModifiers()));
+        Check.same("the class's modifiers", "public final", Modifier.toString(face.getModifiers()));
         TreeSet<String> shown = new TreeSet<>();
         for (Method method : face.getDeclaredMethods()) {
             if (isShown(method)) {
@@ -54,13 +54,13 @@ public final class FaceTest {
                 Check.due(method.getName() + " is public and of an object", Modifier.PUBLIC, method.getModifiers());
             }
         }
-        same("the methods", new TreeSet<>(Arrays.asList(METHODS)).toString(), shown.toString());
+        Check.same("the methods", new TreeSet<>(Arrays.asList(METHODS)).toString(), shown.toString());
         String fields = Arrays.stream(face.getDeclaredFields()).filter(FaceTest::isShown)
                 .map(Field::toString).collect(Collectors.joining("; "));
-        same("the constants", "public static final int PolarPlanimeter.NONE", fields);
+        Check.same("the constants", "public static final int PolarPlanimeter.NONE", fields);
         String constructors = Arrays.stream(face.getDeclaredConstructors()).filter(FaceTest::isShown)
                 .map(Constructor::toString).collect(Collectors.joining("; "));
-        same("the constructors", "public PolarPlanimeter()", constructors);
+        Check.same("the constructors", "public PolarPlanimeter()", constructors);
         Check.due("NONE", -1, PolarPlanimeter.NONE);
         Check.end();
     }
@@ -75,11 +75,5 @@ public final class FaceTest {
         String exceptions = Arrays.stream(method.getExceptionTypes()).map(kind -> " " + kind.getSimpleName())
                 .collect(Collectors.joining());
         return method.getReturnType().getSimpleName() + " " + method.getName() + "(" + parameters + ")" + exceptions;
-    }
-
-    private static void same(String what, String want, String got) {
-        if (!want.equals(got)) {
-            Check.report(what + " are " + got + ", due is " + want);
-        }
     }
 }

@@ -1,10 +1,10 @@
 /** Each promise with ordinary inputs, the edges that the document names, and wrong inputs. */
 public final class PromisesTest {
-    private static final int MIN = Integer.MIN_VALUE;
-    private static final int MAX = Integer.MAX_VALUE;
-    private static final int POLE = 0;
-    private static final int TRACER = 1;
-    private static final int PLAY = 4;
+    private static final int MIN = Given.MIN;
+    private static final int MAX = Given.MAX;
+    private static final int POLE = Given.POLE;
+    private static final int TRACER = Given.TRACER;
+    private static final int PLAY = Given.PLAY;
 
     private PromisesTest() {
     }
@@ -52,39 +52,6 @@ public final class PromisesTest {
 
     // ---- what the tests share
 
-    private static void write(PolarPlanimeter p, String text) {
-        for (int i = 0; i < text.length(); i++) {
-            p.append(text.charAt(i));
-        }
-    }
-
-    private static PolarPlanimeter loaded(String text) {
-        PolarPlanimeter p = new PolarPlanimeter();
-        write(p, text);
-        p.load();
-        return p;
-    }
-
-    /** A counterclockwise rectangle of 400 by 300 that the anchor is outside of. */
-    private static PolarPlanimeter rectangle() {
-        return loaded("300,300;700,300;700,600;300,600");
-    }
-
-    /** A counterclockwise square around the anchor, all in reach. */
-    private static PolarPlanimeter around() {
-        return loaded("-900,-900;900,-900;900,900;-900,900");
-    }
-
-    private static void dueCorner(PolarPlanimeter p, int k, int x, int y, int slip) {
-        Check.due("the x of corner " + k, x, p.corner(k, 0));
-        Check.due("the y of corner " + k, y, p.corner(k, 1));
-        Check.due("the slip of segment " + k, slip, p.corner(k, 2));
-    }
-
-    private static void dueCount(PolarPlanimeter p, int what, long want) {
-        Check.due("count(" + what + ")", want, p.count(what));
-    }
-
     /** Makes a call that throws, and sees that nothing is changed by it. */
     private static void unchanged(PolarPlanimeter p, Runnable check) {
         long before = p.digest();
@@ -98,7 +65,7 @@ public final class PromisesTest {
         PolarPlanimeter p = new PolarPlanimeter();
         long[] counts = {0, 0, 0, 0, 200, 0, 0, 0, 0, 0, 0, 0, 0, 0, 0};
         for (int what = 0; what < counts.length; what++) {
-            dueCount(p, what, counts[what]);
+            Given.dueCount(p, what, counts[what]);
         }
         int[] settings = {1200, 1000, 50, 0, 50};
         for (int i = 0; i < settings.length; i++) {
@@ -109,17 +76,17 @@ public final class PromisesTest {
     }
 
     private static void setAnchor() {
-        PolarPlanimeter p = rectangle();
+        PolarPlanimeter p = Given.rectangle();
         p.run(0, false);
         p.run(1, true);
         Check.due("setAnchor, runs forgotten", 2, p.setAnchor(-2000, 2000));
-        dueCount(p, 1, 0);
-        dueCount(p, 2, -2000);
-        dueCount(p, 3, 2000);
-        dueCount(p, 14, 4);
+        Given.dueCount(p, 1, 0);
+        Given.dueCount(p, 2, -2000);
+        Given.dueCount(p, 3, 2000);
+        Given.dueCount(p, 14, 4);
         Check.due("setAnchor, no runs", 0, p.setAnchor(2000, -2000));
-        dueCount(p, 2, 2000);
-        dueCount(p, 3, -2000);
+        Given.dueCount(p, 2, 2000);
+        Given.dueCount(p, 3, -2000);
         unchanged(p, () -> {
             Check.argument("setAnchor(2001, 0)", () -> p.setAnchor(2001, 0));
             Check.argument("setAnchor(-2001, 0)", () -> p.setAnchor(-2001, 0));
@@ -128,7 +95,7 @@ public final class PromisesTest {
             Check.argument("setAnchor(MIN, 0)", () -> p.setAnchor(MIN, 0));
             Check.argument("setAnchor(0, MAX)", () -> p.setAnchor(0, MAX));
         });
-        PolarPlanimeter same = rectangle();
+        PolarPlanimeter same = Given.rectangle();
         same.run(0, false);
         Check.due("setAnchor to where it is", 1, same.setAnchor(0, 0));
     }
@@ -138,7 +105,7 @@ public final class PromisesTest {
         int[] least = {200, 200, 20, 0, 0};
         int[] greatest = {3000, 3000, 200, 1, 10000};
         for (int i = 0; i < 5; i++) {
-            PolarPlanimeter p = rectangle();
+            PolarPlanimeter p = Given.rectangle();
             p.run(0, false);
             int setting = i;
             unchanged(p, () -> {
@@ -148,8 +115,8 @@ public final class PromisesTest {
                 Check.argument("set MAX", () -> p.set(setting, MAX));
             });
             Check.due("set(" + i + ", the same)", first[i], p.set(i, first[i]));
-            dueCount(p, 1, 0);
-            dueCount(p, 14, 3);
+            Given.dueCount(p, 1, 0);
+            Given.dueCount(p, 14, 3);
             Check.due("set(" + i + ", least)", first[i], p.set(i, least[i]));
             Check.due("set(" + i + ", greatest)", least[i], p.set(i, greatest[i]));
             Check.due("setting(" + i + ")", greatest[i], p.setting(i));
@@ -163,14 +130,14 @@ public final class PromisesTest {
     }
 
     private static void setTolerance() {
-        PolarPlanimeter p = rectangle();
+        PolarPlanimeter p = Given.rectangle();
         p.run(0, false);
         Check.due("setTolerance(0)", 200, p.setTolerance(0));
         Check.due("setTolerance(100000)", 0, p.setTolerance(100000));
         Check.due("setTolerance(7)", 100000, p.setTolerance(7));
-        dueCount(p, 4, 7);
-        dueCount(p, 1, 1);
-        dueCount(p, 14, 5);
+        Given.dueCount(p, 4, 7);
+        Given.dueCount(p, 1, 1);
+        Given.dueCount(p, 14, 5);
         unchanged(p, () -> {
             Check.argument("setTolerance(-1)", () -> p.setTolerance(-1));
             Check.argument("setTolerance(100001)", () -> p.setTolerance(100001));
@@ -197,42 +164,42 @@ public final class PromisesTest {
             Check.index("insert behind the end", () -> p.insert(21, 0, 1001));
         });
         for (int i = 0; i < 20; i++) {
-            dueCorner(p, i, 50 * i - 1000, 1000, 0);
+            Given.dueCorner(p, i, 50 * i - 1000, 1000, 0);
         }
-        dueCount(p, 14, 6);
+        Given.dueCount(p, 14, 6);
     }
 
     private static void insertKeepsSlips() {
-        PolarPlanimeter p = rectangle();
+        PolarPlanimeter p = Given.rectangle();
         for (int k = 0; k < 4; k++) {
             p.setSlip(k, 10 + k);
         }
         p.run(2, false);
         Check.due("insert in the middle", 5, p.insert(2, 800, 500));
-        dueCount(p, 1, 0);
-        dueCorner(p, 1, 700, 300, 11);
-        dueCorner(p, 2, 800, 500, 0);
-        dueCorner(p, 3, 700, 600, 12);
-        dueCorner(p, 4, 300, 600, 13);
+        Given.dueCount(p, 1, 0);
+        Given.dueCorner(p, 1, 700, 300, 11);
+        Given.dueCorner(p, 2, 800, 500, 0);
+        Given.dueCorner(p, 3, 700, 600, 12);
+        Given.dueCorner(p, 4, 300, 600, 13);
         Check.due("insert in front", 6, p.insert(0, -1, -2));
-        dueCorner(p, 0, -1, -2, 0);
-        dueCorner(p, 1, 300, 300, 10);
-        dueCorner(p, 5, 300, 600, 13);
+        Given.dueCorner(p, 0, -1, -2, 0);
+        Given.dueCorner(p, 1, 300, 300, 10);
+        Given.dueCorner(p, 5, 300, 600, 13);
         Check.due("insert at the end", 7, p.insert(6, 9, 8));
-        dueCorner(p, 5, 300, 600, 13);
-        dueCorner(p, 6, 9, 8, 0);
+        Given.dueCorner(p, 5, 300, 600, 13);
+        Given.dueCorner(p, 6, 9, 8, 0);
     }
 
     private static void move() {
-        PolarPlanimeter p = rectangle();
+        PolarPlanimeter p = Given.rectangle();
         p.setSlip(3, 40);
         p.run(0, false);
         p.run(0, true);
         Check.due("move to where it is", 2, p.move(3, 300, 600));
         Check.due("move", 0, p.move(3, -1000, 1000));
-        dueCorner(p, 3, -1000, 1000, 40);
-        dueCorner(p, 2, 700, 600, 0);
-        dueCount(p, 14, 6);
+        Given.dueCorner(p, 3, -1000, 1000, 40);
+        Given.dueCorner(p, 2, 700, 600, 0);
+        Given.dueCount(p, 14, 6);
         unchanged(p, () -> {
             Check.index("move(4, ..)", () -> p.move(4, 5000, 0));
             Check.index("move(-1, ..)", () -> p.move(-1, 0, 0));
@@ -244,42 +211,42 @@ public final class PromisesTest {
     }
 
     private static void remove() {
-        PolarPlanimeter p = rectangle();
+        PolarPlanimeter p = Given.rectangle();
         for (int k = 0; k < 4; k++) {
             p.setSlip(k, 10 + k);
         }
         p.run(0, false);
         Check.due("remove(1)", 3, p.remove(1));
-        dueCount(p, 1, 0);
-        dueCorner(p, 0, 300, 300, 10);
-        dueCorner(p, 1, 700, 600, 12);
-        dueCorner(p, 2, 300, 600, 13);
+        Given.dueCount(p, 1, 0);
+        Given.dueCorner(p, 0, 300, 300, 10);
+        Given.dueCorner(p, 1, 700, 600, 12);
+        Given.dueCorner(p, 2, 300, 600, 13);
         unchanged(p, () -> {
             Check.index("remove(3)", () -> p.remove(3));
             Check.index("remove(-1)", () -> p.remove(-1));
         });
         Check.due("remove the last one", 2, p.remove(2));
         Check.due("remove the first one", 1, p.remove(0));
-        dueCorner(p, 0, 700, 600, 12);
+        Given.dueCorner(p, 0, 700, 600, 12);
         Check.due("remove the only one", 0, p.remove(0));
         Check.index("remove(0) without corners", () -> p.remove(0));
         p.undo();
-        dueCorner(p, 0, 700, 600, 12);
+        Given.dueCorner(p, 0, 700, 600, 12);
     }
 
     private static void setSlip() {
-        PolarPlanimeter p = rectangle();
+        PolarPlanimeter p = Given.rectangle();
         p.run(0, false);
         long sum = p.made(0, 2);
         Check.due("setSlip(1, 30)", 0, p.setSlip(1, 30));
         Check.due("setSlip(1, 100)", 30, p.setSlip(1, 100));
         Check.due("setSlip(1, 0)", 100, p.setSlip(1, 0));
         p.setSlip(3, 77);
-        dueCorner(p, 1, 700, 300, 0);
-        dueCorner(p, 3, 300, 600, 77);
-        dueCount(p, 1, 1);
+        Given.dueCorner(p, 1, 700, 300, 0);
+        Given.dueCorner(p, 3, 300, 600, 77);
+        Given.dueCount(p, 1, 1);
         Check.due("the sum of a run that was made", sum, p.made(0, 2));
-        dueCount(p, 14, 6);
+        Given.dueCount(p, 14, 6);
         unchanged(p, () -> {
             Check.index("setSlip(4, 101)", () -> p.setSlip(4, 101));
             Check.index("setSlip(-1, 0)", () -> p.setSlip(-1, 0));
@@ -289,7 +256,7 @@ public final class PromisesTest {
     }
 
     private static void run() {
-        PolarPlanimeter p = rectangle();
+        PolarPlanimeter p = Given.rectangle();
         for (int i = 0; i < 12; i++) {
             Check.due("run", i, p.run(i % 4, i % 2 == 1));
         }
@@ -300,10 +267,10 @@ public final class PromisesTest {
         Check.due("reason after the 13th run", 4, p.reason());
         Check.index("run(-1, ..)", () -> p.run(-1, true));
         Check.due("a wrong corner leaves the reason", 4, p.reason());
-        dueCount(p, 1, 12);
-        dueCount(p, 14, 6);
+        Given.dueCount(p, 1, 12);
+        Given.dueCount(p, 14, 6);
         p.undo();
-        dueCount(p, 1, 11);
+        Given.dueCount(p, 1, 11);
         Check.due("run again", 11, p.run(1, false));
         Check.due("reason after it is made", 0, p.reason());
     }
@@ -325,13 +292,13 @@ public final class PromisesTest {
         long saved = p.count(14);
         Check.state("run out of reach", () -> p.run(1, true));
         Check.due("reason of the reach", 3, p.reason());
-        dueCount(p, 14, saved);
-        dueCount(p, 1, 0);
+        Given.dueCount(p, 14, saved);
+        Given.dueCount(p, 1, 0);
     }
 
     /** The sums are worked out with the parts that the document tells: rolls, slips and play. */
     private static void runSums() {
-        PolarPlanimeter p = rectangle();
+        PolarPlanimeter p = Given.rectangle();
         p.set(4, 0);
         long rolls = 0;
         for (int k = 0; k < 4; k++) {
@@ -350,7 +317,7 @@ public final class PromisesTest {
         p.run(0, true);
         Check.due("the sum if all is lost", 0, p.made(1, 2));
         Check.due("the sum if all is lost, backward", 0, p.made(2, 2));
-        PolarPlanimeter slips = rectangle();
+        PolarPlanimeter slips = Given.rectangle();
         slips.run(0, false);
         slips.run(1, false);
         slips.run(0, true);
@@ -367,47 +334,47 @@ public final class PromisesTest {
     }
 
     private static void runAll() {
-        PolarPlanimeter p = rectangle();
+        PolarPlanimeter p = Given.rectangle();
         Check.due("runAll", 8, p.runAll());
         Check.due("reason after runAll", 0, p.reason());
         for (int i = 0; i < 8; i++) {
             Check.due("the corner of run " + i, i / 2, p.made(i, 0));
             Check.due("the direction of run " + i, i % 2, p.made(i, 1));
         }
-        dueCount(p, 14, 2);
+        Given.dueCount(p, 14, 2);
         Check.due("runAll again", 4, p.runAll());
         Check.due("reason after runAll is full", 4, p.reason());
         Check.due("the corner of run 11", 1, p.made(11, 0));
-        dueCount(p, 14, 3);
+        Given.dueCount(p, 14, 3);
         Check.due("runAll if it is full", 0, p.runAll());
-        dueCount(p, 14, 4);
+        Given.dueCount(p, 14, 4);
         p.undo();
         p.undo();
-        dueCount(p, 1, 8);
+        Given.dueCount(p, 1, 8);
         p.undo();
-        dueCount(p, 1, 0);
+        Given.dueCount(p, 1, 0);
         Check.due("undo leaves the reason", 4, p.reason());
         PolarPlanimeter empty = new PolarPlanimeter();
         empty.insert(0, 5, 5);
         Check.due("runAll with one corner", 0, empty.runAll());
         Check.due("reason with one corner", 1, empty.reason());
-        dueCount(empty, 14, 2);
+        Given.dueCount(empty, 14, 2);
         empty.remove(0);
         Check.due("runAll without corners", 0, empty.runAll());
         Check.due("reason without corners", 0, empty.reason());
-        dueCount(empty, 14, 4);
+        Given.dueCount(empty, 14, 4);
     }
 
     private static void forget() {
-        PolarPlanimeter p = rectangle();
+        PolarPlanimeter p = Given.rectangle();
         p.runAll();
         Check.due("forget", 8, p.forget());
-        dueCount(p, 1, 0);
+        Given.dueCount(p, 1, 0);
         Check.due("forget without runs", 0, p.forget());
-        dueCount(p, 14, 4);
+        Given.dueCount(p, 14, 4);
         p.undo();
         p.undo();
-        dueCount(p, 1, 8);
+        Given.dueCount(p, 1, 8);
     }
 
     private static void append() {
@@ -426,24 +393,24 @@ public final class PromisesTest {
             Check.state("append the 61st", () -> p.append('1'));
             Check.argument("append the 61st, a wrong one", () -> p.append(127));
         });
-        dueCount(p, 14, 0);
+        Given.dueCount(p, 14, 0);
         Check.due("the length", 60, p.clearBuffer());
     }
 
     private static void clearBuffer() {
         PolarPlanimeter p = new PolarPlanimeter();
         Check.due("clearBuffer, empty", 0, p.clearBuffer());
-        write(p, "1,2;");
+        Given.write(p, "1,2;");
         Check.due("clearBuffer", 4, p.clearBuffer());
         Check.due("clearBuffer again", 0, p.clearBuffer());
-        dueCount(p, 14, 0);
-        write(p, "7");
+        Given.dueCount(p, 14, 0);
+        Given.write(p, "7");
         Check.due("firstError of a new text", 1, p.firstError());
     }
 
     private static void dueError(String text, int want) {
         PolarPlanimeter p = new PolarPlanimeter();
-        write(p, text);
+        Given.write(p, text);
         Check.due("firstError of " + text, want, p.firstError());
         Check.due("the length after firstError", text.length(), p.clearBuffer());
     }
@@ -487,33 +454,33 @@ public final class PromisesTest {
     }
 
     private static void load() {
-        PolarPlanimeter p = rectangle();
+        PolarPlanimeter p = Given.rectangle();
         p.setSlip(2, 50);
         p.run(0, false);
-        write(p, "-1000,0;0,-1;1000,1000");
+        Given.write(p, "-1000,0;0,-1;1000,1000");
         Check.due("load", 3, p.load());
-        dueCorner(p, 0, -1000, 0, 0);
-        dueCorner(p, 1, 0, -1, 0);
-        dueCorner(p, 2, 1000, 1000, 0);
-        dueCount(p, 1, 0);
-        dueCount(p, 14, 4);
+        Given.dueCorner(p, 0, -1000, 0, 0);
+        Given.dueCorner(p, 1, 0, -1, 0);
+        Given.dueCorner(p, 2, 1000, 1000, 0);
+        Given.dueCount(p, 1, 0);
+        Given.dueCount(p, 14, 4);
         Check.due("the buffer after load", 0, p.clearBuffer());
         p.undo();
-        dueCorner(p, 2, 700, 600, 50);
-        dueCount(p, 1, 1);
+        Given.dueCorner(p, 2, 700, 600, 50);
+        Given.dueCount(p, 1, 1);
         Check.due("undo leaves the buffer", 0, p.clearBuffer());
-        write(p, "0,0;0,0;0,0;0,0;0,0;0,0;0,0;0,0;0,0;0,0;0,0;0,0;0,0;0,0;9,10");
+        Given.write(p, "0,0;0,0;0,0;0,0;0,0;0,0;0,0;0,0;0,0;0,0;0,0;0,0;0,0;0,0;9,10");
         Check.due("load the longest one", 15, p.load());
-        dueCorner(p, 14, 9, 10, 0);
+        Given.dueCorner(p, 14, 9, 10, 0);
     }
 
     private static void loadRefuses() {
         String[] texts = {"", "1,1", "1,1;2,2", "1,1;2,2;", "1,1;2,2;3", "1,1;2,2;3,", "1,1;2,2;-", "1,1;2,2;3,-",
             "1,1;2,2;3,03", "1,1;2,2;3,3;", "1,1;2,2;3,3;4", "1,1;2,2;3,3,", "1,1;2,2;3,1001", "x1,1;2,2;3,3"};
         for (String text : texts) {
-            PolarPlanimeter p = rectangle();
+            PolarPlanimeter p = Given.rectangle();
             p.run(0, true);
-            write(p, text);
+            Given.write(p, text);
             unchanged(p, () -> Check.argument("load of " + text, () -> p.load()));
             Check.due("the length of " + text, text.length(), p.clearBuffer());
         }
@@ -527,20 +494,20 @@ public final class PromisesTest {
         p.setTolerance(3);
         p.insert(0, 7, 8);
         p.setSlip(0, 9);
-        write(p, "12");
+        Given.write(p, "12");
         Check.due("undo setSlip", 4, p.undo());
-        dueCorner(p, 0, 7, 8, 0);
+        Given.dueCorner(p, 0, 7, 8, 0);
         Check.due("undo insert", 3, p.undo());
-        dueCount(p, 0, 0);
+        Given.dueCount(p, 0, 0);
         Check.due("undo setTolerance", 2, p.undo());
-        dueCount(p, 4, 200);
+        Given.dueCount(p, 4, 200);
         Check.due("setting before undo", 900, p.setting(1));
         Check.due("undo set", 1, p.undo());
         Check.due("setting after undo", 1000, p.setting(1));
-        dueCount(p, 2, 5);
+        Given.dueCount(p, 2, 5);
         Check.due("undo setAnchor", 0, p.undo());
-        dueCount(p, 2, 0);
-        dueCount(p, 3, 0);
+        Given.dueCount(p, 2, 0);
+        Given.dueCount(p, 3, 0);
         Check.due("undo leaves the buffer", 2, p.firstError());
         unchanged(p, () -> Check.state("undo of everything", () -> p.undo()));
     }
@@ -550,19 +517,19 @@ public final class PromisesTest {
         for (int i = 1; i <= 9; i++) {
             p.setTolerance(i);
         }
-        dueCount(p, 14, 6);
+        Given.dueCount(p, 14, 6);
         for (int i = 8; i >= 3; i--) {
             Check.due("undo", i - 3, p.undo());
-            dueCount(p, 4, i);
+            Given.dueCount(p, 4, i);
         }
         Check.state("undo of a dropped state", () -> p.undo());
         p.setTolerance(50);
         p.undo();
-        dueCount(p, 4, 3);
+        Given.dueCount(p, 4, 3);
     }
 
     private static void reason() {
-        PolarPlanimeter p = rectangle();
+        PolarPlanimeter p = Given.rectangle();
         p.setAnchor(500, 300);
         Check.due("why leaves the reason", 2, p.why(0, false));
         Check.due("reason", 0, p.reason());
@@ -579,7 +546,7 @@ public final class PromisesTest {
     }
 
     private static void corner() {
-        PolarPlanimeter p = rectangle();
+        PolarPlanimeter p = Given.rectangle();
         long[] rolls = {177143901, -10983271, -157298687, 52525754};
         long[] steps = {8, 6, 8, 6};
         for (int k = 0; k < 4; k++) {
@@ -595,7 +562,7 @@ public final class PromisesTest {
             Check.argument("corner(0, 6)", () -> p.corner(0, 6));
             Check.argument("corner(0, -1)", () -> p.corner(0, -1));
         });
-        PolarPlanimeter far = loaded("800,0;1000,0;800,0;800,0;851,0");
+        PolarPlanimeter far = Given.loaded("800,0;1000,0;800,0;800,0;851,0");
         far.setAnchor(-1200, 0);
         long[] reach = {1, 1, 1, 1, 1};
         long[] farSteps = {4, 4, 1, 2, 2};
@@ -614,7 +581,7 @@ public final class PromisesTest {
     }
 
     private static void made() {
-        PolarPlanimeter p = rectangle();
+        PolarPlanimeter p = Given.rectangle();
         p.run(3, true);
         p.run(1, false);
         long[][] due = {{3, 1, 61413297, 119, 119947, 0}, {1, 0, 61362097, 119, 119847, 0}};
@@ -629,7 +596,7 @@ public final class PromisesTest {
             Check.argument("made(0, 6)", () -> p.made(0, 6));
             Check.argument("made(0, -1)", () -> p.made(0, -1));
         });
-        PolarPlanimeter around = around();
+        PolarPlanimeter around = Given.around();
         around.set(1, 1200);
         around.setAnchor(100, 50);
         around.run(0, false);
@@ -639,7 +606,7 @@ public final class PromisesTest {
     }
 
     private static void leftOut() {
-        PolarPlanimeter p = rectangle();
+        PolarPlanimeter p = Given.rectangle();
         p.run(0, false);
         p.run(1, false);
         p.run(0, true);
@@ -652,24 +619,24 @@ public final class PromisesTest {
         for (int run = 0; run < 6; run++) {
             Check.due("left out, " + run, left[run], p.made(run, 5));
         }
-        dueCount(p, 10, (2 * 119847 + 119897 + 119947) / 4);
-        dueCount(p, 11, 2);
+        Given.dueCount(p, 10, (2 * 119847 + 119897 + 119947) / 4);
+        Given.dueCount(p, 11, 2);
         p.setTolerance(100);
-        dueCount(p, 11, 2);
+        Given.dueCount(p, 11, 2);
         p.setTolerance(99);
-        dueCount(p, 11, 3);
+        Given.dueCount(p, 11, 3);
         Check.due("the greatest distance, left out", 1, p.made(3, 5));
         p.setTolerance(0);
-        dueCount(p, 11, 4);
+        Given.dueCount(p, 11, 4);
         Check.due("the first one, not left out", 0, p.made(0, 5));
         Check.due("the second one, not left out", 0, p.made(1, 5));
-        dueCount(p, 10, 119847);
+        Given.dueCount(p, 10, 119847);
         p.setTolerance(6436);
-        dueCount(p, 11, 0);
+        Given.dueCount(p, 11, 0);
         p.setTolerance(6435);
-        dueCount(p, 11, 1);
+        Given.dueCount(p, 11, 1);
         Check.due("126333 is left out first", 1, p.made(5, 5));
-        PolarPlanimeter equal = rectangle();
+        PolarPlanimeter equal = Given.rectangle();
         equal.run(0, true);
         equal.run(3, true);
         equal.run(0, false);
@@ -677,7 +644,7 @@ public final class PromisesTest {
         equal.setTolerance(49);
         Check.due("of several, the lowest number", 1, equal.made(1, 5));
         Check.due("of several, not the other one", 0, equal.made(2, 5));
-        dueCount(equal, 11, 1);
+        Given.dueCount(equal, 11, 1);
     }
 
     private static void dueElbow(PolarPlanimeter p, int tx, int ty, long reached, long x, long y) {
@@ -730,83 +697,83 @@ public final class PromisesTest {
     }
 
     private static void count() {
-        PolarPlanimeter p = rectangle();
+        PolarPlanimeter p = Given.rectangle();
         p.run(0, false);
         p.run(1, false);
         p.run(0, true);
         p.run(3, true);
         long[] due = {4, 4, 0, 0, 200, 240000, 120000, 0, 0, 0, 119884, 0, -116, 28, 5};
         for (int what = 0; what < due.length; what++) {
-            dueCount(p, what, due[what]);
+            Given.dueCount(p, what, due[what]);
         }
         unchanged(p, () -> {
             Check.argument("count(15)", () -> p.count(15));
             Check.argument("count(-1)", () -> p.count(-1));
             Check.argument("count(MIN)", () -> p.count(MIN));
         });
-        PolarPlanimeter clockwise = loaded("0,0;0,3;1,0");
-        dueCount(clockwise, 5, -3);
-        dueCount(clockwise, 6, -1);
-        dueCount(clockwise, 12, 0);
+        PolarPlanimeter clockwise = Given.loaded("0,0;0,3;1,0");
+        Given.dueCount(clockwise, 5, -3);
+        Given.dueCount(clockwise, 6, -1);
+        Given.dueCount(clockwise, 12, 0);
         PolarPlanimeter one = new PolarPlanimeter();
         one.insert(0, 0, 0);
-        dueCount(one, 9, 1);
-        dueCount(one, 13, 1);
+        Given.dueCount(one, 9, 1);
+        Given.dueCount(one, 13, 1);
         one.insert(1, 1000, 1000);
-        dueCount(one, 13, 40);
+        Given.dueCount(one, 13, 40);
         one.set(2, 20);
-        dueCount(one, 13, 100);
+        Given.dueCount(one, 13, 100);
     }
 
     private static void winding() {
-        PolarPlanimeter p = around();
-        dueCount(p, 7, 1);
-        dueCount(p, 8, 4523893);
+        PolarPlanimeter p = Given.around();
+        Given.dueCount(p, 7, 1);
+        Given.dueCount(p, 8, 4523893);
         p.set(0, 3000);
-        dueCount(p, 8, 355L * 9000000 / 113);
+        Given.dueCount(p, 8, 355L * 9000000 / 113);
         p.setAnchor(901, 0);
-        dueCount(p, 7, 0);
-        dueCount(p, 8, 0);
+        Given.dueCount(p, 7, 0);
+        Given.dueCount(p, 8, 0);
         p.setAnchor(0, 901);
-        dueCount(p, 7, 0);
-        PolarPlanimeter clockwise = loaded("-900,-900;-900,900;900,900;900,-900");
-        dueCount(clockwise, 7, -1);
-        dueCount(clockwise, 8, -4523893);
-        PolarPlanimeter twice = loaded("9,-9;9,9;-9,9;-9,-9;8,-8;8,8;-8,8;-8,-8");
-        dueCount(twice, 7, 2);
-        dueCount(twice, 8, 2 * 4523893);
-        PolarPlanimeter small = loaded("1,0;0,1;-1,-1");
-        dueCount(small, 7, 1);
-        PolarPlanimeter turned = loaded("-1,-1;0,1;1,0");
-        dueCount(turned, 7, -1);
-        PolarPlanimeter levelClockwise = loaded("0,-9;-9,0;0,9;9,0");
-        dueCount(levelClockwise, 7, -1);
+        Given.dueCount(p, 7, 0);
+        PolarPlanimeter clockwise = Given.loaded("-900,-900;-900,900;900,900;900,-900");
+        Given.dueCount(clockwise, 7, -1);
+        Given.dueCount(clockwise, 8, -4523893);
+        PolarPlanimeter twice = Given.loaded("9,-9;9,9;-9,9;-9,-9;8,-8;8,8;-8,8;-8,-8");
+        Given.dueCount(twice, 7, 2);
+        Given.dueCount(twice, 8, 2 * 4523893);
+        PolarPlanimeter small = Given.loaded("1,0;0,1;-1,-1");
+        Given.dueCount(small, 7, 1);
+        PolarPlanimeter turned = Given.loaded("-1,-1;0,1;1,0");
+        Given.dueCount(turned, 7, -1);
+        PolarPlanimeter levelClockwise = Given.loaded("0,-9;-9,0;0,9;9,0");
+        Given.dueCount(levelClockwise, 7, -1);
         turned.setAnchor(9, 0);
-        dueCount(turned, 7, 0);
+        Given.dueCount(turned, 7, 0);
         turned.setAnchor(-9, 0);
-        dueCount(turned, 7, 0);
-        PolarPlanimeter level = loaded("9,0;0,9;-9,0;0,-9");
-        dueCount(level, 7, 1);
+        Given.dueCount(turned, 7, 0);
+        PolarPlanimeter level = Given.loaded("9,0;0,9;-9,0;0,-9");
+        Given.dueCount(level, 7, 1);
     }
 
     private static void onOutline() {
-        PolarPlanimeter p = loaded("0,0;100,0;100,70;0,70");
+        PolarPlanimeter p = Given.loaded("0,0;100,0;100,70;0,70");
         int[][] on = {{0, 0}, {100, 70}, {50, 0}, {100, 35}, {0, 1}, {99, 70}};
         int[][] off = {{50, 35}, {101, 0}, {-1, 0}, {100, 71}, {100, -1}, {0, 71}, {50, 1}};
         for (int[] at : on) {
             p.setAnchor(at[0], at[1]);
-            dueCount(p, 9, 1);
+            Given.dueCount(p, 9, 1);
         }
         for (int[] at : off) {
             p.setAnchor(at[0], at[1]);
-            dueCount(p, 9, 0);
+            Given.dueCount(p, 9, 0);
         }
-        PolarPlanimeter slanted = loaded("-20,-10;20,10;500,500");
-        dueCount(slanted, 9, 1);
+        PolarPlanimeter slanted = Given.loaded("-20,-10;20,10;500,500");
+        Given.dueCount(slanted, 9, 1);
         slanted.setAnchor(0, 1);
-        dueCount(slanted, 9, 0);
+        Given.dueCount(slanted, 9, 0);
         slanted.setAnchor(22, 11);
-        dueCount(slanted, 9, 0);
+        Given.dueCount(slanted, 9, 0);
     }
 
     private static void setting() {
@@ -839,15 +806,15 @@ public final class PromisesTest {
         Check.due("why leaves the reason", 0, p.reason());
         Check.index("why(3, ..)", () -> p.why(3, false));
         Check.index("why(-1, ..)", () -> p.why(-1, false));
-        PolarPlanimeter full = rectangle();
+        PolarPlanimeter full = Given.rectangle();
         full.runAll();
         full.runAll();
         Check.due("why, 12 runs", 4, full.why(0, true));
-        dueCount(full, 14, 3);
+        Given.dueCount(full, 14, 3);
     }
 
     private static void ifSet() {
-        PolarPlanimeter p = rectangle();
+        PolarPlanimeter p = Given.rectangle();
         p.runAll();
         p.runAll();
         long before = p.digest();
@@ -897,7 +864,7 @@ public final class PromisesTest {
         Check.due("leastArm, 3000 - 200", 2800, p.leastArm());
         p.setAnchor(-2000, 2000);
         Check.due("leastArm, no arm is long enough", -1, p.leastArm());
-        PolarPlanimeter around = around();
+        PolarPlanimeter around = Given.around();
         around.setAnchor(100, 50);
         // from 800 to 1379 away: 1200 - 800 is needed; with a corner 111 away, 1200 - 111
         Check.due("leastArm around the anchor", 400, around.leastArm());
@@ -910,17 +877,17 @@ public final class PromisesTest {
     }
 
     private static void error() {
-        PolarPlanimeter p = rectangle();
+        PolarPlanimeter p = Given.rectangle();
         Check.dueBits("error without runs", 0.0, p.error());
         p.run(0, false);
         p.run(1, false);
         p.run(0, true);
         p.run(3, true);
         Check.dueBits("error", -116.0 / 120000.0, p.error());
-        PolarPlanimeter flat = loaded("300,300;700,300;500,300");
+        PolarPlanimeter flat = Given.loaded("300,300;700,300;500,300");
         flat.run(0, false);
         Check.dueBits("error without an area", 0.0, flat.error());
-        PolarPlanimeter clockwise = loaded("300,600;700,600;700,300;300,300");
+        PolarPlanimeter clockwise = Given.loaded("300,600;700,600;700,300;300,300");
         clockwise.run(0, false);
         Check.dueBits("error of a negative area", (double) (clockwise.made(0, 4) + 120000) / -120000.0, clockwise.error());
     }
@@ -939,11 +906,11 @@ public final class PromisesTest {
         Check.due("digest of a new object", hashOf(fresh), p.digest());
         p.insert(0, 1000, 5);
         p.runAll();
-        write(p, "!~");
+        Given.write(p, "!~");
         long[] one = {1, 0, 0, 0, 200, 0, 0, 0, 0, 0, 0, 0, 0, 1, 2, 1200, 1000, 50, 0, 50,
             1000, 5, 0, 1, 0, 1, 200, 0, 1, 2, 33, 126};
         Check.due("digest with a corner, a reason and a text", hashOf(one), p.digest());
-        PolarPlanimeter r = rectangle();
+        PolarPlanimeter r = Given.rectangle();
         r.run(0, false);
         long bits = Double.doubleToLongBits(-153.0 / 120000.0);
         long[] run = {4, 1, 0, 0, 200, 240000, 120000, 0, 0, 0, 119847, 0, -153, 28, 2, 1200, 1000, 50, 0, 50,
@@ -953,30 +920,13 @@ public final class PromisesTest {
         Check.due("digest with a run", hashOf(run), r.digest());
     }
 
-    /** The digest, from what the other methods answer; the buffer is empty. */
     private static void dueDigest(String what, PolarPlanimeter p) {
-        long hash = 2113;
-        for (int i = 0; i < 15; i++) {
-            hash = 31 * hash + p.count(i);
-        }
-        for (int i = 0; i < 5; i++) {
-            hash = 31 * hash + p.setting(i);
-        }
-        for (int i = 0; i < 6 * p.count(0); i++) {
-            hash = 31 * hash + p.corner(i / 6, i % 6);
-        }
-        for (int i = 0; i < 6 * p.count(1); i++) {
-            hash = 31 * hash + p.made(i / 6, i % 6);
-        }
-        hash = 31 * hash + p.leastArm();
-        hash = 31 * hash + Double.doubleToLongBits(p.error());
-        hash = 31 * hash + p.reason();
-        Check.due("digest, " + what, 31 * hash, p.digest());
+        Check.due("digest, " + what, Given.hash(Given.values(p, p.reason(), "")), p.digest());
     }
 
     /** If all is lost by slips, the area of a run is the constant alone: so errors can be chosen. */
     private static void dueErrorOfConstant(String outline, int pole, int tracer, double want) {
-        PolarPlanimeter p = loaded(outline);
+        PolarPlanimeter p = Given.loaded(outline);
         p.set(POLE, pole);
         p.set(TRACER, tracer);
         for (int k = 0; k < p.count(0); k++) {
@@ -997,12 +947,12 @@ public final class PromisesTest {
         dueErrorOfConstant("300,300;700,300;700,600;300,600", 1200, 1000, -1.0);
         dueErrorOfConstant("300,300;302,300;301,301", 1200, 1000, -1.0);
         dueErrorOfConstant("300,300;301,301;302,300", 1200, 1000, -1.0);
-        PolarPlanimeter flat = loaded("300,300;700,300;500,300");
+        PolarPlanimeter flat = Given.loaded("300,300;700,300;500,300");
         flat.set(PLAY, 10000);
         flat.run(1, false);
         Check.due("the mean of a flat outline is below 0", 1, flat.count(10) < 0 ? 1 : 0);
         dueDigest("a flat outline", flat);
-        PolarPlanimeter small = loaded("300,300;302,300;301,301");
+        PolarPlanimeter small = Given.loaded("300,300;302,300;301,301");
         small.run(0, false);
         small.run(2, true);
         dueDigest("a small outline", small);
