@@ -138,14 +138,8 @@ public final class DigestEdgesTest {
         }
     }
 
-    /** All is lost by the slips, so that the mean is the constant alone. */
     private static void dueError(String outline, int pole, int tracer, double error) {
-        PolarPlanimeter p = Given.loaded(outline);
-        p.set(Given.POLE, pole);
-        p.set(Given.TRACER, tracer);
-        for (int k = 0; k < p.count(0); k++) {
-            p.setSlip(k, 100);
-        }
+        PolarPlanimeter p = Given.lost(outline, pole, tracer);
         p.run(0, false);
         List<Long> values = Given.values(p, 0, "");
         Check.due("the bits of " + error, Double.doubleToLongBits(error), values.get(values.size() - 3));
@@ -160,6 +154,9 @@ public final class DigestEdgesTest {
         dueError("-153,-239;153,-239;153,240;-153,240", 216, 216, 0.0);
         dueError("-153,240;153,240;153,-239;-153,-239", 216, 216, -0.0);
         dueError("300,300;700,300;700,600;300,600", 1200, 1000, -1.0);
+        dueError("300,300;302,300;301,301", 1200, 1000, -1.0);
+        dueError("300,300;301,301;302,300", 1200, 1000, -1.0);
+        dueError("51,-239;-51,-239;-51,240;51,240", 216, 216, 2.0);
     }
 
     private static void ofFull() {

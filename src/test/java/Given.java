@@ -56,6 +56,17 @@ final class Given {
         return p;
     }
 
+    /** All is lost by the slips, so that the area of a run is the constant alone. */
+    static PolarPlanimeter lost(String text, int pole, int tracer) {
+        PolarPlanimeter p = loaded(text);
+        p.set(POLE, pole);
+        p.set(TRACER, tracer);
+        for (int k = 0; k < p.count(0); k++) {
+            p.setSlip(k, 100);
+        }
+        return p;
+    }
+
     /** 20 corners, 12 runs, 60 characters, 6 saved states, and the reason 4. */
     static PolarPlanimeter full() {
         PolarPlanimeter p = corners(20);
@@ -109,10 +120,12 @@ final class Given {
         for (int i = 0; i < 5; i++) {
             values.add((long) p.setting(i));
         }
-        for (int i = 0; i < 6 * p.count(0); i++) {
+        long corners = p.count(0);
+        for (int i = 0; i < 6 * corners; i++) {
             values.add(p.corner(i / 6, i % 6));
         }
-        for (int i = 0; i < 6 * p.count(1); i++) {
+        long runs = p.count(1);
+        for (int i = 0; i < 6 * runs; i++) {
             values.add(p.made(i / 6, i % 6));
         }
         values.add((long) p.leastArm());

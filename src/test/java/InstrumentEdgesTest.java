@@ -27,6 +27,7 @@ public final class InstrumentEdgesTest {
         reachAboveZero();
         reachAtMost();
         reachAtLeast();
+        reachOfTheLongestArms();
         negativeSquareIsZero();
         truncatedAlong();
         truncatedElbow();
@@ -225,6 +226,16 @@ public final class InstrumentEdgesTest {
         PolarPlanimeter longTracer = arms(1000, 1200);
         dueElbow(longTracer, 3200, 0, -16000, 0);
         dueNoElbow(longTracer, 3199, 0);
+    }
+
+    /** D is some 9 * 10 ^ 9: its root is 95999, 96000, and 96001. */
+    private static void reachOfTheLongestArms() {
+        Check.sentence("All numbers are integers, exactly (many are greater than an int): D");
+        PolarPlanimeter p = arms(3000, 3000);
+        p.setAnchor(-2000, -2000);
+        dueElbow(p, FAR, 31498, 4000, -251);
+        dueElbow(p, FAR, 31499, 4000, -251);
+        dueNoElbow(p, FAR, 31500);
     }
 
     /** D is 17 * 17 - 1 with r = 16, and 6417 * 6417 - 1 with r = 6416: a = 3217 is greater than p. */

@@ -33,6 +33,7 @@ public final class MeanEdgesTest {
         negativeDistance();
         withConstant();
         toleranceOfTheMoment();
+        eachNumberByItself();
         meanMinusArea();
         Check.end();
     }
@@ -128,6 +129,7 @@ public final class MeanEdgesTest {
         Check.sentence("the tolerance (0 to 100000): 0");
         dueMean(runs(0, 10, 10, 10), 10);
         dueMean(runs(0, 10, 10, 10, 20), 10, 3);
+        dueMean(runs(0, 20, 10, 10, 10), 10, 0);
         dueMean(runs(1, 1, 2, 3), 2);
         dueMean(runs(0, 1, 2, 3), 2, 0);
     }
@@ -216,6 +218,17 @@ public final class MeanEdgesTest {
         p.undo();
         p.undo();
         dueMean(p, 300, 0);
+    }
+
+    /** A new object each time, so that no other answer comes before the one that is looked at. */
+    private static void eachNumberByItself() {
+        Check.sentence("10: the mean of the runs; 11: runs that are left out of it; 12; 5: 1 if it is left out");
+        Given.dueCount(runs(0, 0, 200, 400), 10, 300);
+        Given.dueCount(runs(0, 0, 200, 400), 11, 1);
+        Given.dueCount(runs(0, 0, 200, 400), 12, 300 - AREA);
+        Check.due("made(0, 5)", 1, runs(0, 0, 200, 400).made(0, 5));
+        Check.due("made(1, 5)", 0, runs(0, 0, 200, 400).made(1, 5));
+        Check.dueBits("error()", -59700.0 / 60000.0, runs(0, 0, 200, 400).error());
     }
 
     private static void meanMinusArea() {

@@ -2,8 +2,6 @@
 public final class PromisesTest {
     private static final int MIN = Given.MIN;
     private static final int MAX = Given.MAX;
-    private static final int POLE = Given.POLE;
-    private static final int TRACER = Given.TRACER;
     private static final int PLAY = Given.PLAY;
 
     private PromisesTest() {
@@ -926,12 +924,7 @@ public final class PromisesTest {
 
     /** If all is lost by slips, the area of a run is the constant alone: so errors can be chosen. */
     private static void dueErrorOfConstant(String outline, int pole, int tracer, double want) {
-        PolarPlanimeter p = Given.loaded(outline);
-        p.set(POLE, pole);
-        p.set(TRACER, tracer);
-        for (int k = 0; k < p.count(0); k++) {
-            p.setSlip(k, 100);
-        }
+        PolarPlanimeter p = Given.lost(outline, pole, tracer);
         p.run(0, false);
         Check.dueBits("error of " + outline, want, p.error());
         dueDigest("error of " + outline, p);

@@ -32,6 +32,7 @@ public final class RunEdgesTest {
         windingOfTheLastSegment();
         windingAboveInt();
         constantTruncated();
+        sumAboveInt();
         readingTruncated();
         areaTruncated();
         anchorOnEnds();
@@ -221,6 +222,9 @@ public final class RunEdgesTest {
         dueWinding(clockwise, -9, 0, -1);
         dueWinding(square, 10, 0, 0);
         dueWinding(square, 8, 0, 1);
+        // c is 1 and -1
+        dueWinding("0,-1;1,1;-5,0", 0, 0, 1);
+        dueWinding("-5,0;1,1;0,-1", 0, 0, -1);
     }
 
     private static void windingOfTheLastSegment() {
@@ -253,6 +257,22 @@ public final class RunEdgesTest {
         p.setAnchor(10, 0);
         Given.dueCount(p, 8, 0);
         Given.dueCount(new PolarPlanimeter(), 8, 0);
+    }
+
+    private static void sumAboveInt() {
+        Check.sentence("All numbers are integers, exactly (many are greater than an int): roll, sum and area");
+        PolarPlanimeter p = Given.around();
+        p.set(Given.POLE, 3000);
+        p.set(Given.TRACER, 3000);
+        for (int k = 0; k < 4; k++) {
+            Check.due("the roll of " + k, -3203127107L, p.corner(k, 4));
+        }
+        p.run(0, false);
+        p.run(0, true);
+        Check.due("the sum", -12812508428L, p.made(0, 2));
+        Check.due("the sum, backward", -12812482828L, p.made(1, 2));
+        Check.due("the reading", -8341, p.made(0, 3));
+        Check.due("the area", 28274336 - 25024430, p.made(0, 4));
     }
 
     /** -990324 / 512000 is -1 and a part, and -990324 / 512 is -1934 and a part. */

@@ -15,6 +15,7 @@ public final class UndoEdgesTest {
         refusedRunAllSaves();
         restoresEverything();
         restoresForgottenRuns();
+        restoresReplacedRun();
         restoresFromFull();
         leavesBuffer();
         leavesReason();
@@ -166,7 +167,7 @@ public final class UndoEdgesTest {
         }
         long digest = p.digest();
         p.forget();
-        p.run(3, true);
+        p.run(3, false);
         p.undo();
         p.undo();
         Given.dueCount(p, 1, 12);
@@ -178,6 +179,22 @@ public final class UndoEdgesTest {
         p.setTolerance(200);
         p.setTolerance(200);
         Check.due("digest()", digest, p.digest());
+    }
+
+    private static void restoresReplacedRun() {
+        Check.sentence("Restores the latest saved state, with a run whose number another one had since");
+        PolarPlanimeter p = Given.rectangle();
+        p.run(0, true);
+        p.forget();
+        p.setSlip(1, 100);
+        p.run(1, false);
+        Check.due("is the sum another one", 1, p.made(0, 2) != 61387697 ? 1 : 0);
+        for (int i = 0; i < 3; i++) {
+            p.undo();
+        }
+        Check.due("made(0, 0)", 0, p.made(0, 0));
+        Check.due("made(0, 1)", 1, p.made(0, 1));
+        Check.due("made(0, 2)", 61387697, p.made(0, 2));
     }
 
     private static void restoresFromFull() {

@@ -278,13 +278,8 @@ public final class WouldBeEdgesTest {
 
     // ---- error
 
-    /** All is lost by the slips, so that the mean is 0, or the constant. */
     private static PolarPlanimeter lost(String text) {
-        PolarPlanimeter p = Given.loaded(text);
-        for (int k = 0; k < p.count(0); k++) {
-            p.setSlip(k, 100);
-        }
-        return p;
+        return Given.lost(text, 1200, 1000);
     }
 
     private static void errorWithoutRuns() {
@@ -328,18 +323,14 @@ public final class WouldBeEdgesTest {
         Check.dueBits("error() with the area -1", -1.0, minusOne.error());
     }
 
-    /** A constant of 146579 is the mean of the areas, and the area of the outline is 146579, too. */
+    /** The constant of 146574 is the mean of the areas, and the area of the outline is 146574, too. */
     private static void errorOfZero() {
         Check.sentence("Returns count(12), as a double, divided by the area of the outline, as a double: 0");
-        PolarPlanimeter p = lost("-153,-239;153,-239;153,240;-153,240");
-        p.set(Given.POLE, 216);
-        p.set(Given.TRACER, 216);
+        PolarPlanimeter p = Given.lost("-153,-239;153,-239;153,240;-153,240", 216, 216);
         p.run(0, false);
         Given.dueCount(p, 12, 0);
         Check.dueBits("error()", 0.0, p.error());
-        PolarPlanimeter clockwise = lost("-153,240;153,240;153,-239;-153,-239");
-        clockwise.set(Given.POLE, 216);
-        clockwise.set(Given.TRACER, 216);
+        PolarPlanimeter clockwise = Given.lost("-153,240;153,240;153,-239;-153,-239", 216, 216);
         clockwise.run(0, false);
         Given.dueCount(clockwise, 12, 0);
         Check.dueBits("error() of a negative area", -0.0, clockwise.error());
